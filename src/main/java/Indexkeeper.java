@@ -67,13 +67,16 @@ public final class Indexkeeper {
   private int knocks;
 
   private final Prices prices = new Prices();
-  private final Desk desk = new Desk(prices);
+  private final Divider divider = new Divider();
+  private final Reviewer reviewer = new Reviewer(prices, divider);
+  private final Dealer dealer = new Dealer(prices, divider);
   private final Pen pen = new Pen();
   private final Big left = new Big(WIDE_ROOM);
   private final Big right = new Big(WIDE_ROOM);
   private final Big hand = new Big(WIDE_ROOM);
-  private Book book = new Book(prices, desk);
-  private Book other = new Book(prices, desk);
+  private final Big factor = new Big(3);
+  private Book book = new Book(prices, reviewer, dealer);
+  private Book other = new Book(prices, reviewer, dealer);
 
   public Indexkeeper() {
   }
@@ -311,8 +314,8 @@ public final class Indexkeeper {
 
   public int rank(int index, int paper) throws IndexOutOfBoundsException {
     needThing(book.hasIndex(index) && book.hasPaper(paper));
-    desk.reviewer.line(book, book.gauges[index]);
-    return desk.reviewer.rankOf(paper);
+    reviewer.line(book, book.gauges[index]);
+    return reviewer.rankOf(paper);
   }
 
   // ---- what is asked of indexes
@@ -442,7 +445,7 @@ public final class Indexkeeper {
     if (purse.units < 1) {
       return "-";
     }
-    desk.dealer.worth(book, purse, left);
+    dealer.worth(book, purse, left);
     hand.copy(left);
     int common = (int) gcd(purse.units, hand.shrink(purse.units));
     left.shrink(common);
@@ -473,7 +476,7 @@ public final class Indexkeeper {
     if (purse.units < 1) {
       return "-";
     }
-    desk.dealer.worth(book, purse, left);
+    dealer.worth(book, purse, left);
     hand.put((long) price * purse.units);
     hand.add(left, true);
     int side = hand.side();
@@ -734,7 +737,7 @@ public final class Indexkeeper {
   }
 
   private int worthSign(Purse purse) {
-    desk.dealer.worth(book, purse, hand);
+    dealer.worth(book, purse, hand);
     return hand.side();
   }
 
@@ -747,8 +750,8 @@ public final class Indexkeeper {
     left.put(0);
     left.addTimes(gauge.basket.shares[paper], book.priceNow(paper));
     left.scale(10000);
-    desk.divider.divide(left, right);
-    return (int) desk.divider.quotient.small();
+    divider.divide(left, right);
+    return (int) divider.quotient.small();
   }
 
   /** Leaves the sum in hand. */
@@ -812,16 +815,16 @@ public final class Indexkeeper {
     right.copy(lower);
     // numbers of 1200 digits take fewer than 6000 steps
     for (int i = 0; i < 100000 && right.length > 0; i++) {
-      desk.divider.divide(left, right);
+      divider.divide(left, right);
       left.copy(right);
-      right.copy(desk.divider.rest);
+      right.copy(divider.rest);
     }
     hand.copy(left);
-    desk.divider.divide(upper, hand);
-    pen.big(desk.divider.quotient);
+    divider.divide(upper, hand);
+    pen.big(divider.quotient);
     pen.sign('/');
-    desk.divider.divide(lower, hand);
-    pen.big(desk.divider.quotient);
+    divider.divide(lower, hand);
+    pen.big(divider.quotient);
   }
 
   private void writeReport(Gauge gauge) {
@@ -861,7 +864,7 @@ public final class Indexkeeper {
     if (what == 0) {
       pen.big(purse.money);
     } else if (what == 1) {
-      desk.dealer.worth(book, purse, hand);
+      dealer.worth(book, purse, hand);
       pen.big(hand);
     } else {
       pen.big(purse.fees);
@@ -873,9 +876,9 @@ public final class Indexkeeper {
       pen.sign('-');
       return;
     }
-    desk.dealer.plan(book, purse);
+    dealer.plan(book, purse);
     for (int p = 0; p < book.papersKnown; p++) {
-      hand.copy(desk.dealer.goals[p]);
+      hand.copy(dealer.goals[p]);
       hand.add(purse.shares[p], true);
       if (hand.length > 0) {
         pen.space();
@@ -994,14 +997,14 @@ public final class Indexkeeper {
     right.put(1);
     for (int p = 0; p < PAPERS; p++) {
       if (gauge.isMember[p]) {
-        desk.number.put(gauge.weightLower[p]);
-        hand.product(left, desk.number);
+        factor.put(gauge.weightLower[p]);
+        hand.product(left, factor);
         left.copy(hand);
-        desk.number.put(gauge.weightUpper[p]);
-        hand.product(right, desk.number);
+        factor.put(gauge.weightUpper[p]);
+        hand.product(right, factor);
         left.add(hand, false);
-        desk.number.put(gauge.weightLower[p]);
-        hand.product(right, desk.number);
+        factor.put(gauge.weightLower[p]);
+        hand.product(right, factor);
         right.copy(hand);
       }
     }
@@ -1624,20 +1627,6 @@ public final class Indexkeeper {
     }
   }
 
-  /** What reckons for both books. */
-  private static final class Desk {
-    final Divider divider = new Divider();
-    final Reviewer reviewer = new Reviewer();
-    final Dealer dealer;
-    final Closer closer;
-    final Big number = new Big(3);
-
-    Desk(Prices prices) {
-      dealer = new Dealer(prices, divider);
-      closer = new Closer(prices, divider, dealer);
-    }
-  }
-
   /** Lines up candidates, chooses members and weighs them. */
   private static final class Reviewer {
     private final long[] sizes = new long[PAPERS];
@@ -1649,8 +1638,16 @@ public final class Indexkeeper {
     private final long[] tops = new long[PAPERS];
     private final long[] bottoms = new long[PAPERS];
     private final long[] kindSizes = new long[KINDS];
-    private final Big share = new Big(INDEX_ROOM);
-    private final Big factor = new Big(3);
+    private final Prices prices;
+    private final Divider divider;
+    private final Big now = new Big(WIDE_ROOM);
+    private final Big then = new Big(WIDE_ROOM);
+    private final Big upper = new Big(WIDE_ROOM);
+
+    Reviewer(Prices thePrices, Divider theDivider) {
+      prices = thePrices;
+      divider = theDivider;
+    }
 
     void line(Book book, Gauge gauge) {
       candidates = 0;
@@ -1848,9 +1845,9 @@ public final class Indexkeeper {
           to.put(tops[p]);
           for (int q = 0; q < PAPERS; q++) {
             if (isChosen[q] && bottoms[q] != bottoms[p] && isFirstOfBottom(q)) {
-              factor.put(bottoms[q]);
-              share.product(to, factor);
-              to.copy(share);
+              then.put(bottoms[q]);
+              upper.product(to, then);
+              to.copy(upper);
             }
           }
         }
@@ -1865,6 +1862,25 @@ public final class Indexkeeper {
       }
       return true;
     }
+
+    /** Sets the level of a day by the one ahead; answers how many thousandths it is too low. */
+    int chain(Gauge gauge, int day) {
+      if (!isIn(day, 1, LAST_DAY)) {
+        return 0;
+      }
+      gauge.basket.compare(now, then, prices, day);
+      upper.product(gauge.levels[day - 1], now);
+      upper.scale(2);
+      upper.add(then, false);
+      then.scale(2);
+      divider.divide(upper, then);
+      gauge.levels[day].copy(divider.quotient);
+      // the rest is above the level by a half, since a half was added to round it
+      upper.copy(divider.rest);
+      upper.scale(1000);
+      divider.divide(upper, then);
+      return (int) divider.quotient.small() - 500;
+    }
   }
 
   /** Reckons what funds are worth, what comes and goes with units, and what a trade would do. */
@@ -1874,6 +1890,7 @@ public final class Indexkeeper {
     private final Big all = new Big(WIDE_ROOM);
     private final Big sum = new Big(WIDE_ROOM);
     private final Big piece = new Big(WIDE_ROOM);
+    private final Big lower = new Big(WIDE_ROOM);
     private final Big[] values = new Big[PAPERS];
     private final boolean[] isPicked = new boolean[PAPERS];
     /** What a trade would leave of each paper. */
@@ -2021,65 +2038,29 @@ public final class Indexkeeper {
       purse.money.copy(all);
       purse.touched = touched;
     }
-  }
-
-  /** Reckons what is due at the end of a day. */
-  private static final class Closer {
-    private final Prices prices;
-    private final Divider divider;
-    private final Dealer dealer;
-    private final Big now = new Big(WIDE_ROOM);
-    private final Big then = new Big(WIDE_ROOM);
-    private final Big upper = new Big(WIDE_ROOM);
-    private final Big lower = new Big(WIDE_ROOM);
-
-    Closer(Prices thePrices, Divider theDivider, Dealer theDealer) {
-      prices = thePrices;
-      divider = theDivider;
-      dealer = theDealer;
-    }
-
-    /** Sets the level of a day by the one ahead; answers how many thousandths it is too low. */
-    int chain(Gauge gauge, int day) {
-      if (!isIn(day, 1, LAST_DAY)) {
-        return 0;
-      }
-      gauge.basket.compare(now, then, prices, day);
-      upper.product(gauge.levels[day - 1], now);
-      upper.scale(2);
-      upper.add(then, false);
-      then.scale(2);
-      divider.divide(upper, then);
-      gauge.levels[day].copy(divider.quotient);
-      // the rest is above the level by a half, since a half was added to round it
-      upper.copy(divider.rest);
-      upper.scale(1000);
-      divider.divide(upper, then);
-      return (int) divider.quotient.small() - 500;
-    }
 
     void chargeFee(Book book, Purse purse) {
-      dealer.worth(book, purse, now);
-      if (now.side() <= 0) {
+      worth(book, purse, all);
+      if (all.side() <= 0) {
         return;
       }
-      now.scale(purse.fee);
-      then.put(purse.carried);
-      now.add(then, false);
-      purse.carried = now.shrink(YEAR);
-      purse.fees.add(now, false);
-      purse.money.add(now, true);
+      all.scale(purse.fee);
+      sum.put(purse.carried);
+      all.add(sum, false);
+      purse.carried = all.shrink(YEAR);
+      purse.fees.add(all, false);
+      purse.money.add(all, true);
     }
 
     /** Compares the fund with its index, from the end of the day ahead to the end of this one. */
     void noteMiss(Book book, Purse purse) {
       Gauge gauge = book.gauges[purse.follows];
       int day = book.today;
-      dealer.worth(book, purse, now);
-      boolean stands = purse.units > 0 && now.side() > 0 && gauge.hasLevel(day, day);
+      worth(book, purse, all);
+      boolean stands = purse.units > 0 && all.side() > 0 && gauge.hasLevel(day, day);
       stands = stands && gauge.levels[day].length > 0;
-      then.copy(purse.worthThen);
-      purse.worthThen.copy(now);
+      sum.copy(purse.worthThen);
+      purse.worthThen.copy(all);
       if (stands && purse.stood && day > 0) {
         addMiss(purse, gauge.levels[day - 1], gauge.levels[day]);
       }
@@ -2088,27 +2069,28 @@ public final class Indexkeeper {
     }
 
     private void addMiss(Purse purse, Big levelThen, Big levelNow) {
-      now.scale(purse.unitsThen);
-      then.scale(purse.units);
-      upper.product(now, levelThen);
-      lower.product(then, levelNow);
-      upper.add(lower, true);
-      upper.scale(1000000);
-      lower.product(then, levelThen);
-      boolean below = upper.isBelow;
-      divider.divide(upper, lower);
-      upper.copy(divider.quotient);
-      now.put(below && divider.rest.length > 0 ? 1 : 0);
-      upper.add(now, false);
-      now.product(upper, upper);
-      purse.misses.add(now, false);
+      all.scale(purse.unitsThen);
+      sum.scale(purse.units);
+      piece.product(all, levelThen);
+      lower.product(sum, levelNow);
+      piece.add(lower, true);
+      piece.scale(1000000);
+      lower.product(sum, levelThen);
+      boolean below = piece.isBelow;
+      divider.divide(piece, lower);
+      piece.copy(divider.quotient);
+      all.put(below && divider.rest.length > 0 ? 1 : 0);
+      piece.add(all, false);
+      all.product(piece, piece);
+      purse.misses.add(all, false);
     }
   }
 
   /** All that comes of the deeds. */
   private static final class Book {
     private final Prices prices;
-    private final Desk desk;
+    private final Reviewer reviewer;
+    private final Dealer dealer;
     int today;
     int papersKnown;
     int indexesKnown;
@@ -2121,9 +2103,10 @@ public final class Indexkeeper {
     private final Big fresh = new Big(FUND_ROOM);
     private final Big coins = new Big(FUND_ROOM);
 
-    Book(Prices thePrices, Desk theDesk) {
+    Book(Prices thePrices, Reviewer theReviewer, Dealer theDealer) {
       prices = thePrices;
-      desk = theDesk;
+      reviewer = theReviewer;
+      dealer = theDealer;
       for (int p = 0; p < PAPERS; p++) {
         papers[p] = new Paper();
       }
@@ -2191,7 +2174,7 @@ public final class Indexkeeper {
     void settleToday() {
       for (int i = 0; i < indexesKnown; i++) {
         if (gauges[i].basket.isInForce) {
-          desk.closer.chain(gauges[i], today);
+          reviewer.chain(gauges[i], today);
         }
       }
     }
@@ -2385,20 +2368,20 @@ public final class Indexkeeper {
 
     private void makeUnits(int fund, int units) {
       if (hasFund(fund)) {
-        desk.dealer.addUnits(this, purses[fund], units);
+        dealer.addUnits(this, purses[fund], units);
       }
     }
 
     private void takeUnits(int fund, int units) {
       if (hasFund(fund)) {
-        desk.dealer.dropUnits(this, purses[fund], units);
+        dealer.dropUnits(this, purses[fund], units);
       }
     }
 
     private void tradeFund(int fund) {
       if (hasFund(fund) && gauges[purses[fund].follows].basket.isInForce) {
-        desk.dealer.plan(this, purses[fund]);
-        desk.dealer.settle(this, purses[fund]);
+        dealer.plan(this, purses[fund]);
+        dealer.settle(this, purses[fund]);
       }
     }
 
@@ -2414,21 +2397,21 @@ public final class Indexkeeper {
       }
       for (int i = 0; i < indexesKnown; i++) {
         if (gauges[i].basket.isInForce) {
-          gauges[i].drift += desk.closer.chain(gauges[i], today);
+          gauges[i].drift += reviewer.chain(gauges[i], today);
         }
       }
       for (int f = 0; f < fundsKnown; f++) {
-        desk.closer.chargeFee(this, purses[f]);
+        dealer.chargeFee(this, purses[f]);
       }
       for (int i = 0; i < indexesKnown; i++) {
         if (gauges[i].isDue) {
           gauges[i].isDue = false;
-          desk.reviewer.judge(this, gauges[i]);
+          reviewer.judge(this, gauges[i]);
         }
       }
       // the day of a first review has its level only behind the review
       for (int f = 0; f < fundsKnown; f++) {
-        desk.closer.noteMiss(this, purses[f]);
+        dealer.noteMiss(this, purses[f]);
       }
       for (int i = 0; i < indexesKnown; i++) {
         if (gauges[i].basket.isInForce) {
