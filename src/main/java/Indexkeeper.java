@@ -93,7 +93,7 @@ public final class Indexkeeper {
       return REFUSED;
     }
     prices.tell(number, book.today, price);
-    change(PAPER, count, free, kind, 0, 0, 0);
+    book.perform(deeds, note(PAPER, count, free, kind, 0, 0, 0), done);
     return number;
   }
 
@@ -108,7 +108,7 @@ public final class Indexkeeper {
     book.settleToday();
     int before = prices.told(paper, day);
     prices.tell(paper, day, price);
-    change(PRICE, paper, day, price, 0, 0, before);
+    note(PRICE, paper, day, price, 0, 0, before);
     other.reset();
     other.perform(deeds, 0, done);
     other.settleToday();
@@ -123,7 +123,7 @@ public final class Indexkeeper {
     needArgument(isIn(count, 1, 99999));
     needState(!book.papers[paper].isGone);
     int before = book.papers[paper].number;
-    change(COUNT, paper, count, 0, 0, 0, 0);
+    book.perform(deeds, note(COUNT, paper, count, 0, 0, 0, 0), done);
     return before;
   }
 
@@ -133,7 +133,7 @@ public final class Indexkeeper {
     needArgument(isIn(free, 1, 100));
     needState(!book.papers[paper].isGone);
     int before = book.papers[paper].percent;
-    change(FREE, paper, free, 0, 0, 0, 0);
+    book.perform(deeds, note(FREE, paper, free, 0, 0, 0, 0), done);
     return before;
   }
 
@@ -142,7 +142,7 @@ public final class Indexkeeper {
     needThing(book.hasPaper(paper));
     needArgument(isRatio(a, b));
     needState(!book.papers[paper].isGone);
-    change(SPLIT, paper, a, b, 0, 0, 0);
+    book.perform(deeds, note(SPLIT, paper, a, b, 0, 0, 0), done);
     return book.papers[paper].number;
   }
 
@@ -151,7 +151,7 @@ public final class Indexkeeper {
     needThing(book.hasPaper(paper));
     needArgument(isIn(coins, 1, 99999));
     needState(!book.papers[paper].isGone);
-    change(PAYMENT, paper, coins, 0, 0, 0, 0);
+    book.perform(deeds, note(PAYMENT, paper, coins, 0, 0, 0, 0), done);
     return digits(book.taken);
   }
 
@@ -160,7 +160,7 @@ public final class Indexkeeper {
     needThing(book.hasPaper(paper));
     needArgument(isRatio(a, b) && isIn(price, 1, 99999));
     needState(!book.papers[paper].isGone);
-    change(RIGHTS, paper, a, b, price, 0, 0);
+    book.perform(deeds, note(RIGHTS, paper, a, b, price, 0, 0), done);
     return book.papers[paper].number;
   }
 
@@ -174,7 +174,7 @@ public final class Indexkeeper {
       return REFUSED;
     }
     prices.tell(number, book.today, price);
-    change(SPIN, paper, a, b, 0, 0, 0);
+    book.perform(deeds, note(SPIN, paper, a, b, 0, 0, 0), done);
     return number;
   }
 
@@ -183,13 +183,13 @@ public final class Indexkeeper {
     needThing(book.hasPaper(paper) && book.hasPaper(into));
     needArgument(paper != into && isRatio(a, b));
     needState(!book.papers[paper].isGone && !book.papers[into].isGone);
-    change(MERGER, paper, into, a, b, 0, 0);
+    book.perform(deeds, note(MERGER, paper, into, a, b, 0, 0), done);
     return book.papers[into].number;
   }
 
   public int next() throws IllegalStateException {
     needState(book.today < LAST_DAY);
-    change(NEXT, 0, 0, 0, 0, 0, 0);
+    book.perform(deeds, note(NEXT, 0, 0, 0, 0, 0, 0), done);
     return book.today;
   }
 
@@ -201,7 +201,7 @@ public final class Indexkeeper {
     needArgument(isIn(cap, 10, 100) && isIn(region, NONE, KINDS - 1));
     needState(book.indexesKnown < INDEXES);
     int number = book.indexesKnown;
-    change(INDEX, way, wanted, buffer, cap, region, isBack ? 1 : 0);
+    book.perform(deeds, note(INDEX, way, wanted, buffer, cap, region, isBack ? 1 : 0), done);
     return number;
   }
 
@@ -210,7 +210,7 @@ public final class Indexkeeper {
     needThing(book.hasIndex(index));
     needArgument(isIn(percent, 0, 100));
     int before = book.gauges[index].tax;
-    change(TAX, index, percent, 0, 0, 0, 0);
+    book.perform(deeds, note(TAX, index, percent, 0, 0, 0, 0), done);
     return before;
   }
 
@@ -219,13 +219,13 @@ public final class Indexkeeper {
     needThing(book.hasIndex(index));
     needArgument(isIn(whole, NONE, index - 1));
     int before = book.gauges[index].whole;
-    change(PART, index, whole, 0, 0, 0, 0);
+    book.perform(deeds, note(PART, index, whole, 0, 0, 0, 0), done);
     return before;
   }
 
   public int review(int index) throws IndexOutOfBoundsException {
     needThing(book.hasIndex(index));
-    change(REVIEW, index, 0, 0, 0, 0, 0);
+    book.perform(deeds, note(REVIEW, index, 0, 0, 0, 0, 0), done);
     return book.countDue();
   }
 
@@ -237,7 +237,7 @@ public final class Indexkeeper {
     needArgument(isIn(fee, 0, 999) && isIn(sample, 0, 8) && isIn(lots, 1, 100));
     needState(book.fundsKnown < FUNDS);
     int number = book.fundsKnown;
-    change(FUND, index, fee, sample, lots, 0, 0);
+    book.perform(deeds, note(FUND, index, fee, sample, lots, 0, 0), done);
     return number;
   }
 
@@ -249,7 +249,7 @@ public final class Indexkeeper {
     if (purse.units > 0 && (purse.units + units > MOST_UNITS || worthSign(purse) <= 0)) {
       return REFUSED;
     }
-    change(MAKE, fund, units, 0, 0, 0, 0);
+    book.perform(deeds, note(MAKE, fund, units, 0, 0, 0, 0), done);
     return purse.units;
   }
 
@@ -261,7 +261,7 @@ public final class Indexkeeper {
     if (purse.units < units || worthSign(purse) <= 0) {
       return REFUSED;
     }
-    change(TAKE, fund, units, 0, 0, 0, 0);
+    book.perform(deeds, note(TAKE, fund, units, 0, 0, 0, 0), done);
     return purse.units;
   }
 
@@ -271,7 +271,7 @@ public final class Indexkeeper {
     if (!book.gauges[purse.follows].basket.isInForce) {
       return REFUSED;
     }
-    change(TRADE, fund, 0, 0, 0, 0, 0);
+    book.perform(deeds, note(TRADE, fund, 0, 0, 0, 0, 0), done);
     return purse.touched;
   }
 
@@ -280,7 +280,7 @@ public final class Indexkeeper {
     needThing(book.hasFund(fund) && book.hasPaper(paper));
     needArgument(isIn(percent, 0, 100));
     int before = book.purses[fund].lent[paper];
-    change(LEND, fund, paper, percent, 0, 0, 0);
+    book.perform(deeds, note(LEND, fund, paper, percent, 0, 0, 0), done);
     return before;
   }
 
@@ -526,7 +526,9 @@ public final class Indexkeeper {
   }
 
   public boolean isSound() {
-    return checkAll();
+    other.reset();
+    other.perform(deeds, 0, done);
+    return isAlike();
   }
 
   public long digest() {
@@ -540,7 +542,9 @@ public final class Indexkeeper {
     pen.clear();
     writeMoved();
     d = d * 31 + pen.length();
-    return d * 31 + (checkAll() ? 1 : 0);
+    other.reset();
+    other.perform(deeds, 0, done);
+    return d * 31 + (isAlike() ? 1 : 0);
   }
 
   // ---- what the face asks of its arguments
@@ -577,12 +581,14 @@ public final class Indexkeeper {
     return done >= DEEDS;
   }
 
-  private void change(int deed, int a, int b, int c, int d, int e, int f) {
+  /** Answers the row of the deed. */
+  private int note(int deed, int a, int b, int c, int d, int e, int f) {
+    int row = done;
     // behind the 512th call answers are free, so a deed without a row is left out
     if (isFull()) {
-      return;
+      return row;
     }
-    int at = done * ROW;
+    int at = row * ROW;
     deeds[at] = deed;
     deeds[at + 1] = a;
     deeds[at + 2] = b;
@@ -592,7 +598,7 @@ public final class Indexkeeper {
     deeds[at + 6] = f;
     done++;
     steps = steps < STEPS_BACK ? steps + 1 : STEPS_BACK;
-    book.perform(deeds, done - 1, done);
+    return row;
   }
 
   private void swapBooks() {
@@ -960,9 +966,8 @@ public final class Indexkeeper {
 
   // ---- soundness
 
-  private boolean checkAll() {
-    other.reset();
-    other.perform(deeds, 0, done);
+  /** The other book has done all anew. */
+  private boolean isAlike() {
     book.settleToday();
     other.settleToday();
     boolean isGood = true;
@@ -1915,7 +1920,11 @@ public final class Indexkeeper {
       to.add(purse.money, false);
     }
 
-    void addUnits(Book book, Purse purse, int n) {
+    void addUnits(Book book, int fund, int n) {
+      if (!book.hasFund(fund)) {
+        return;
+      }
+      Purse purse = book.purses[fund];
       if (purse.units == 0) {
         sum.put(1000L * n);
         purse.money.add(sum, false);
@@ -1932,10 +1941,11 @@ public final class Indexkeeper {
       purse.units += n;
     }
 
-    void dropUnits(Book book, Purse purse, int n) {
-      if (purse.units < n) {
+    void dropUnits(Book book, int fund, int n) {
+      if (!book.hasFund(fund) || book.purses[fund].units < n) {
         return;
       }
+      Purse purse = book.purses[fund];
       int rest = moveParts(book, purse, n, true);
       purse.left += 1000 * rest / purse.units;
       purse.money.add(all, true);
@@ -2052,23 +2062,31 @@ public final class Indexkeeper {
       purse.money.add(all, true);
     }
 
-    /** Compares the fund with its index, from the end of the day ahead to the end of this one. */
-    void noteMiss(Book book, Purse purse) {
+    /**
+     * Notes how the fund stands at the end of a day; answers whether it stood at the end of the day
+     * ahead, too, and leaves what it was worth then in sum, what it is worth now in all.
+     */
+    boolean standsAgain(Book book, Purse purse) {
       Gauge gauge = book.gauges[purse.follows];
       int day = book.today;
+      boolean stood = purse.stood && day > 0;
       worth(book, purse, all);
       boolean stands = purse.units > 0 && all.side() > 0 && gauge.hasLevel(day, day);
-      stands = stands && gauge.levels[day].length > 0;
+      purse.stood = stands && gauge.levels[day].length > 0;
       sum.copy(purse.worthThen);
       purse.worthThen.copy(all);
-      if (stands && purse.stood && day > 0) {
-        addMiss(purse, gauge.levels[day - 1], gauge.levels[day]);
-      }
-      purse.stood = stands;
-      purse.unitsThen = purse.units;
+      return purse.stood && stood;
     }
 
-    private void addMiss(Purse purse, Big levelThen, Big levelNow) {
+    /** Compares the fund with its index, from the end of the day ahead to the end of this one. */
+    void addMiss(Book book, Purse purse) {
+      Gauge gauge = book.gauges[purse.follows];
+      int day = book.today;
+      if (!isIn(day, 1, LAST_DAY)) {
+        return;
+      }
+      Big levelThen = gauge.levels[day - 1];
+      Big levelNow = gauge.levels[day];
       all.scale(purse.unitsThen);
       sum.scale(purse.units);
       piece.product(all, levelThen);
@@ -2202,8 +2220,8 @@ public final class Indexkeeper {
           case PART: setWhole(a, b); break;
           case REVIEW: setDue(a); break;
           case FUND: addFund(a, b, c, d); break;
-          case MAKE: makeUnits(a, b); break;
-          case TAKE: takeUnits(a, b); break;
+          case MAKE: dealer.addUnits(this, a, b); break;
+          case TAKE: dealer.dropUnits(this, a, b); break;
           case TRADE: tradeFund(a); break;
           case LEND: setLent(a, b, c); break;
           default: break;
@@ -2366,18 +2384,6 @@ public final class Indexkeeper {
       }
     }
 
-    private void makeUnits(int fund, int units) {
-      if (hasFund(fund)) {
-        dealer.addUnits(this, purses[fund], units);
-      }
-    }
-
-    private void takeUnits(int fund, int units) {
-      if (hasFund(fund)) {
-        dealer.dropUnits(this, purses[fund], units);
-      }
-    }
-
     private void tradeFund(int fund) {
       if (hasFund(fund) && gauges[purses[fund].follows].basket.isInForce) {
         dealer.plan(this, purses[fund]);
@@ -2411,7 +2417,10 @@ public final class Indexkeeper {
       }
       // the day of a first review has its level only behind the review
       for (int f = 0; f < fundsKnown; f++) {
-        dealer.noteMiss(this, purses[f]);
+        if (dealer.standsAgain(this, purses[f])) {
+          dealer.addMiss(this, purses[f]);
+        }
+        purses[f].unitsThen = purses[f].units;
       }
       for (int i = 0; i < indexesKnown; i++) {
         if (gauges[i].basket.isInForce) {
