@@ -28,6 +28,11 @@ public final class HouseTest {
         "pay 0 1 -> 0", "house 4 -> 6", "count 0 0 -> IAE", "knock -> 1", "make 0 1 -> IOOBE", "house 4 -> 6",
         "undo -> 5", "undo -> 4", "undo -> 3", "undo -> 2", "undo -> 1", "undo -> 0", "house 1 -> 0",
         "house 6 -> 1");
+    // the prices of a paper that is taken back are told no more, neither ahead of another nor behind it
+    ScriptHelp.check(45,
+        "paper 5 1 0 77 -> 0", "undo -> 0", "next -> 1", "paper 6 1 0 8 -> 0", "priceOn 0 0 -> -1", "undo -> 1",
+        "undo -> 0", "paper 6 1 0 8 -> 0", "next -> 1", "spin 0 1 1 66 -> 1", "price 1 1 65 -> 0", "undo -> 3",
+        "undo -> 2", "undo -> 1", "spin 0 1 1 9 -> 1", "next -> 1", "ofPaper 1 3 -> 9", "ofPaper 0 3 -> 8");
   }
 
   /** A rich start, so that each change changes something. */
@@ -164,8 +169,11 @@ public final class HouseTest {
     ScriptHelp.due(49, "digest of a new object", x.digest(), due(x));
     x = start();
     ScriptHelp.due(49, "digest", x.digest(), due(x));
-    x.lend(0, 0, 30);
+    x.trade(0);
     x.trade(1);
+    x.lend(0, 0, 30);
+    x.lend(1, 1, 99);
+    ScriptHelp.due(49, "digest", x.digest(), due(x));
     x.pay(1, 3);
     x.merge(0, 1, 2, 3);
     x.next();
