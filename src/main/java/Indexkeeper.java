@@ -23,8 +23,8 @@ public final class Indexkeeper {
 
   /** An object answers 512 calls, so there are never more deeds. */
   private static final int DEEDS = 512;
-  /** The deed, six numbers that it takes, and the price that a told price took the place of. */
-  private static final int ROW = 8;
+  /** The deed and six numbers; of a told price the last one is what it took the place of. */
+  private static final int ROW = 7;
   private static final int STEPS_BACK = 8;
 
   /** Limbs of nine digits: 512 calls make a level or a part of a basket no longer than that. */

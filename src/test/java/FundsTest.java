@@ -10,6 +10,11 @@ public final class FundsTest {
     "paper 1000 100 0 100 -> 0", "index 1 1 0 100 -1 false -> 0", "fund 0 999 0 1 -> 0", "make 0 1 -> 1",
     "review 0 -> 1", "next -> 1", "trade 0 -> 1", "held 0 0 -> 10", "money 0 0 -> 0",
   };
+  /** One paper at 150, and a fund with 3 units that holds 21 of it and owes a coin; today is 1. */
+  private static final String[] THIRDS = {
+    "paper 1000 100 0 150 -> 0", "index 1 1 0 100 -1 false -> 0", "fund 0 0 0 1 -> 0", "make 0 3 -> 3",
+    "review 0 -> 1", "next -> 1", "trade 0 -> 1", "rights 0 1 20 1 -> 1050", "held 0 0 -> 21", "money 0 0 -> -1",
+  };
   /** Three alike papers at 10; fund 0 holds two of them, fund 1 lots of 7; today is 1. */
   private static final String[] TWO_FUNDS = {
     "paper 100 100 0 10 -> 0", "paper 100 100 0 10 -> 1", "paper 100 100 0 10 -> 2",
@@ -82,6 +87,10 @@ public final class FundsTest {
         "rights 0 1 20 200 -> 2205", "held 0 0 -> 66", "money 0 1 -> 0", "house 4 -> 8", "make 0 1 -> -9",
         "make 0 0 -> IAE", "take 0 1 -> -9", "rights 0 1 20 101 -> 2315", "money 0 1 -> -3", "make 0 1 -> -9",
         "make 0 9999 -> -9", "ofFund 0 4 -> 3");
+    check(17, ONE_UNIT,
+        "rights 0 20 1 105 -> 21000", "money 0 1 -> 0", "make 0 1 -> -9", "make 0 10000 -> IAE", "house 4 -> 8");
+    // 7 come, and the ceiling of 1049.67 - 1050
+    check(17, THIRDS, "make 0 1 -> 4", "held 0 0 -> 28", "money 0 0 -> -1", "ofFund 0 5 -> 333");
   }
 
   private static void take() {
@@ -104,6 +113,8 @@ public final class FundsTest {
     check(18, ONE_UNIT,
         "rights 0 20 1 105 -> 21000", "money 0 0 -> -21000", "held 0 0 -> 210", "money 0 1 -> 0",
         "take 0 1 -> -9", "take 0 0 -> IAE", "house 4 -> 8");
+    // 7 go, and the floor of 1049.67 - 1050
+    check(18, THIRDS, "take 0 1 -> 2", "held 0 0 -> 14", "money 0 0 -> 0", "ofFund 0 5 -> 666");
   }
 
   /** By a late price calls are told anew that would be refused by it. */
@@ -244,6 +255,15 @@ public final class FundsTest {
         "index 0 1 0 100 0 false -> 1", "part 1 0 -> -1", "fund 1 0 0 1 -> 0", "make 0 1 -> 1",
         "review 0 -> 1", "review 1 -> 2", "next -> 1", "make 0 7 -> 8", "next -> 2", "error 0 -> 0",
         "price 0 2 11 -> 2", "next -> 3", "error 0 -> 10000000000", "price 0 0 8 -> 6", "error 0 -> 0");
+    // with nothing it is worth there is nothing to compare
+    check(42, ONE_UNIT,
+        "rights 0 20 1 105 -> 21000", "money 0 1 -> 0", "next -> 2", "pay 0 1 -> 210", "next -> 3", "error 0 -> 0");
+    // told anew, a fund knows nothing of how it stood when it was told ahead
+    ScriptHelp.check(42,
+        "paper 10 100 0 10 -> 0", "index 0 1 0 100 -1 false -> 0", "review 0 -> 1", "next -> 1",
+        "fund 0 0 0 1 -> 0", "make 0 1 -> 1", "price 0 1 11 -> 1", "next -> 2", "error 0 -> 0",
+        "price 0 2 22 -> 1", "next -> 3", "error 0 -> 1000000000000", "price 0 0 10 -> 0", "price 0 0 10 -> 0",
+        "price 0 0 10 -> 0", "error 0 -> 1000000000000");
   }
 
   private static void gain() {

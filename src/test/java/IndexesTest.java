@@ -155,6 +155,10 @@ public final class IndexesTest {
         "index 1 4 0 10 -1 false -> 2", "review 2 -> 1", "next -> 4", "why 2 -> ok", "next -> 5", "why 2 -> ok",
         "merge 0 1 1 1 -> 7", "review 1 -> 1", "next -> 6", "why 1 -> cap", "members 1 -> 0 1 2 3",
         "weight 1 0 -> 1/4", "undo -> 7", "why 1 -> ok");
+    ScriptHelp.check(29,
+        "paper 4 100 0 1 -> 0", "paper 3 100 0 1 -> 1", "paper 2 100 0 1 -> 2", "index 2 3 0 33 -1 false -> 0",
+        "index 2 3 0 34 -1 false -> 1", "review 0 -> 1", "review 1 -> 2", "next -> 1", "why 0 -> cap",
+        "why 1 -> ok");
   }
 
   private static void weight() {
