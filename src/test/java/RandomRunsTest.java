@@ -3,8 +3,8 @@ import java.util.Arrays;
 /** Runs of chosen calls, on the keeper and on the plain model, whose answers must be the same. */
 public final class RandomRunsTest {
   public static void main(String[] args) {
-    int runs = args.length > 0 ? Integer.parseInt(args[0]) : 60;
-    int calls = args.length > 1 ? Integer.parseInt(args[1]) : 200;
+    int runs = args.length > 0 ? Integer.parseInt(args[0]) : 150;
+    int calls = args.length > 1 ? Integer.parseInt(args[1]) : 300;
     int from = args.length > 2 ? Integer.parseInt(args[2]) : 0;
     int wrong = 0;
     for (int run = from; run < from + runs && wrong < 5; run++) {
