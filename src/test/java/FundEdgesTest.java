@@ -163,6 +163,13 @@ public final class FundEdgesTest {
         "held 1 0 -> 181", "price 0 1 20 -> 1", "held 0 0 -> 100", "money 0 0 -> 0", "price 0 1 21 -> 1",
         "held 0 0 -> 0", "money 0 0 -> 2000", "held 1 0 -> 95", "price 0 1 2000 -> 1", "held 1 0 -> 1",
         "price 0 1 2001 -> 1", "held 1 0 -> 0", "ofFund 1 7 -> 0");
+    edge(0, "What is left is money.", EdgeHelp.shares(3), "pay 0 333 -> 999", "trade 0 -> 0", "money 0 0 -> 999",
+        "tax 0 99 -> 0", "pay 0 34 -> 1", "money 0 0 -> 1000", "trade 0 -> 1", "held 0 0 -> 4", "money 0 0 -> 0",
+        "rights 0 1 4 1001 -> 1250", "money 0 0 -> -1001", "trade 0 -> 1", "held 0 0 -> 3", "money 0 0 -> 999");
+    edge(0, "and LOTS (1 to 100).", "paper 1 100 0 1 -> 0", "index 0 1 0 100 -1 false -> 0", "fund 0 0 0 0 -> IAE",
+        "fund 0 0 0 1 -> 0", "fund 0 0 0 100 -> 1", "fund 0 0 0 101 -> IAE", "make 0 1 -> 1", "make 1 1 -> 1",
+        "review 0 -> 1", "next -> 1", "trade 0 -> 1", "trade 1 -> 1", "held 0 0 -> 1000", "held 1 0 -> 1000",
+        "price 0 1 11 -> 1", "held 0 0 -> 90", "held 1 0 -> 0");
     edge(0, "TOUCHED: how many PAPERS have another HOLDING then.", three,
         "ofFund 1 7 -> 0", "trade 1 -> 3", "trade 1 -> 0", "ofFund 1 7 -> 0", "price 0 1 11 -> 1", "ofFund 1 7 -> 0",
         "next -> 2", "trade 1 -> 0", "price 2 2 40 -> 1", "held 1 2 -> 32", "ofFund 1 7 -> 0", "next -> 3",
@@ -199,6 +206,15 @@ public final class FundEdgesTest {
   }
 
   private static void lent() {
+    edge(0, "A part of a HOLDING can be LENT, in percent (0 at first):", EdgeHelp.shares(100), "votes 0 true -> 100",
+        "collateral 0 -> 0", "lend 0 0 1 -> 0", "votes 0 true -> 99", "spin 0 1 1 1 -> 1", "votes 1 true -> 100",
+        "lend 0 1 100 -> 0", "votes 1 true -> 0", "undo -> 7", "undo -> 6", "paper 1 1 0 1 -> 1", "lend 0 1 5 -> 0");
+    edge(0, "COLLATERAL: for all that a FUND has LENT", EdgeHelp.shares(100), "fund 0 0 0 1 -> 1", "make 1 100 -> 100",
+        "trade 1 -> 1", "lend 1 0 100 -> 0", "collateral 0 -> 0", "collateral 1 -> 105000", "lend 0 0 1 -> 0",
+        "collateral 0 -> 1050",
+        // what is no longer held is no longer LENT
+        "merge 0 0 1 1 -> IAE", "take 1 100 -> 0", "collateral 1 -> 0", "paper 1 1 0 1 -> 1", "merge 0 1 1 1 -> 1001",
+        "collateral 0 -> 0");
     edge(0, "LENT is the floor of HOLDING * percent / 100.", EdgeHelp.shares(101),
         "lend 0 0 0 -> 0", "votes 0 true -> 101", "lend 0 0 1 -> 0", "votes 0 true -> 100", "lend 0 0 99 -> 1",
         "votes 0 true -> 2", "lend 0 0 100 -> 99", "votes 0 true -> 0", "split 0 1 2 -> 500", "held 0 0 -> 50",
@@ -251,6 +267,16 @@ public final class FundEdgesTest {
         "review 0 -> 1", "next -> 1", "price 0 1 1 -> 1", "level 0 1 -> 10", "next -> 2", "error 0 -> 999980000100",
         "split 0 1 20 -> 50", "level 0 2 -> 1", "next -> 3", "error 0 -> 1809980000100", "split 0 1 20 -> 2",
         "level 0 3 -> 0", "next -> 4", "error 0 -> 1809980000100", "next -> 5", "error 0 -> 1809980000100");
+    // each m is squared for itself
+    edge(0, "as at the end of the first one - the same of LEVEL); the sum of m * m.", COINS, "price 0 1 11 -> 1",
+        "next -> 2", "error 0 -> 10000000000", "price 0 2 22 -> 1", "next -> 3", "error 0 -> 1010000000000",
+        "price 0 3 11 -> 1", "next -> 4", "error 0 -> 1260000000000", "next -> 5", "error 0 -> 1260000000000",
+        // 1 - 10 / 11 and 1 - 9 / 10
+        "price 0 5 10 -> 1", "next -> 6", "price 0 6 9 -> 1", "next -> 7", "error 0 -> 1278264446281");
+    edge(0, "m as the floor of 1000000 *", COINS, "price 0 1 9 -> 1", "next -> 2", "error 0 -> 10000000000",
+        "price 0 2 10 -> 1", "next -> 3",
+        // 1 - 10 / 9 is 111111.1 below 0
+        "error 0 -> 22345876544");
     edge(0, "(how many times as much WORTH of a unit is at the end of the later one (behind FEE)", COINS,
         // units that come count for themselves
         "make 0 1 -> 2", "next -> 2", "error 0 -> 0", "take 0 1 -> 1", "next -> 3", "error 0 -> 0");
@@ -274,6 +300,8 @@ public final class FundEdgesTest {
         "review 1 -> 2", "next -> 1", "trade 0 -> 1", "ofFund 0 7 -> 1", "price 0 0 8 -> 2", "held 0 0 -> 0",
         "money 0 0 -> 1000", "ofFund 0 7 -> 0", "trade 0 -> -9", "isSound -> true", "price 0 0 9 -> 2",
         "held 0 0 -> 111", "ofFund 0 7 -> 1");
+    edge(0, "then the next DAY is TODAY.", EdgeHelp.shares(3), "house 0 -> 1", "price 0 2 7 -> IAE", "next -> 2",
+        "house 0 -> 2", "price 0 2 7 -> 1", "priceOn 0 1 -> 1000", "money 0 1 -> 21");
     edge(0, "The END of a DAY: first LEVELS, then FEES, then REVIEWS that are due, by the numbers of indexes;",
         "paper 20 100 0 10 -> 0", "paper 10 100 0 10 -> 1", "index 0 1 0 100 -1 false -> 0",
         "index 0 1 0 100 -1 false -> 1", "part 1 0 -> -1", "fund 0 999 0 1 -> 0", "make 0 9999 -> 9999",

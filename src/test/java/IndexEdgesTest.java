@@ -74,6 +74,14 @@ public final class IndexEdgesTest {
         "members 3 -> 1 2", "merge 2 0 1 1 -> 6", "paper 9 100 3 10 -> 4", "review 0 -> 1", "review 3 -> 2",
         // the index 1 has no REVIEW: its members are as they were, but one is GONE, and one that came is none of them
         "next -> 2", "members 0 -> 0 1 3 4", "members 1 -> 1 2", "members 3 -> 1");
+    edge(0, "a REGION (a KIND, or NONE for all)",
+        "paper 4 100 0 10 -> 0", "paper 3 100 3 10 -> 1", "index 0 8 0 100 0 false -> 0", "index 0 8 0 100 3 false -> 1",
+        "index 0 8 0 100 -1 false -> 2", "review 0 -> 1", "review 1 -> 2", "review 2 -> 3", "next -> 1", "members 0 -> 0",
+        "members 1 -> 1", "members 2 -> 0 1");
+    // the SIZES of the end of the DAY count, and late ones
+    edge(0, "REVIEW of an index, at the end of a DAY.", ONE_OF_TWO,
+        "review 0 -> 1", "count 1 21 -> 10", "next -> 2", "members 0 -> 1", "undo -> 7", "price 0 1 11 -> 1", "next -> 2",
+        "members 0 -> 0", "price 0 1 10 -> 2", "members 0 -> 1", "price 0 2 11 -> 0", "members 0 -> 1");
     // the whole goes ahead of its PART on one DAY, for its number is smaller
     edge(0, candidates, ONE_OF_TWO,
         "index 0 8 0 100 -1 false -> 1", "part 1 0 -> -1", "count 1 21 -> 10", "review 1 -> 1", "review 0 -> 2",
@@ -207,6 +215,13 @@ public final class IndexEdgesTest {
   }
 
   private static void inForce() {
+    // alike ones at 1 and 99999, and 99999 of the first one for each of the other
+    edge(0, "The new BASKET: of each member WEIGHT / PRICE.",
+        "paper 9 100 0 1 -> 0", "paper 1 100 0 99999 -> 1", "index 1 2 0 100 -1 false -> 0",
+        "index 2 2 0 50 -1 false -> 1", "index 0 2 0 100 -1 false -> 2", "review 0 -> 1", "review 1 -> 2",
+        "review 2 -> 3", "next -> 1", "part10000 0 0 -> 5000", "part10000 1 0 -> 5000", "part10000 2 0 -> 0",
+        "part10000 2 1 -> 9999", "price 1 1 1 -> 3", "part10000 0 0 -> 9999", "part10000 1 0 -> 9999",
+        "part10000 2 0 -> 9000", "part10000 2 1 -> 1000", "level 0 1 -> 500005", "level 2 1 -> 100");
     edge(0, "It is in force from the next DAY on.", ONE_OF_TWO,
         "fund 0 0 0 1 -> 0", "make 0 1 -> 1", "index 0 1 0 100 1 false -> 1", "fund 1 0 0 1 -> 1", "make 1 1 -> 1",
         "review 1 -> 1", "trade 1 -> -9", "would 1 -> -", "report 1 ->", "part10000 1 1 -> 0", "level 1 1 -> -",

@@ -92,6 +92,8 @@ public final class PaperEdgesTest {
   }
 
   private static void counts() {
+    edge(0, "PAPERS: at most 10, each with a KIND (0 to 3)", papers(9), "paper 1 1 4 1 -> IAE", "paper 1 1 -1 1 -> IAE",
+        "paper 1 1 3 1 -> 9", "ofPaper 9 0 -> 3", "paper 1 1 0 1 -> ISE", "ofPaper 10 0 -> IOOBE", "spin 9 1 1 1 -> ISE");
     edge(0, "COUNT is 1 at least and 999999999 at most, whatever comes of it.",
         "paper 1 100 0 1 -> 0", "split 0 19 20 -> 1", "split 0 1 20 -> 1", "split 0 1 2 -> 1", "spin 0 1 2 1 -> 1",
         "ofPaper 1 1 -> 1", "spin 0 1 20 1 -> 2", "ofPaper 2 1 -> 1", "split 0 2 1 -> 2", "split 0 1 2 -> 1");
@@ -132,6 +134,10 @@ public final class PaperEdgesTest {
         // 20 / 20 is a coin, 39 / 20 is no more, 40 / 20 is two
         "price 0 2 20 -> 1", "money 0 0 -> 1", "price 0 2 39 -> 1", "money 0 0 -> 1", "price 0 2 40 -> 1",
         "money 0 0 -> 2", "price 0 2 1 -> 1", "money 0 0 -> 0", "level 0 2 -> 50");
+    edge(0, "SPLIT a for b: COUNT becomes the floor of COUNT * a / b; a HOLDING h becomes h * a / b;", EdgeHelp.shares(19),
+        "split 0 1 19 -> 52", "held 0 0 -> 1", "money 0 0 -> 0", "level 0 1 -> 52632", "split 0 19 18 -> 54",
+        "held 0 0 -> 1", "money 0 0 -> 55", "level 0 1 -> 55556", "split 0 20 1 -> 1080", "split 0 1 20 -> 54",
+        "held 0 0 -> 1", "level 0 1 -> 55556");
     edge(0, "money for the rest: the floor of the rest * PRICE.", EdgeHelp.shares(20),
         "split 0 1 20 -> 50", "held 0 0 -> 1", "money 0 0 -> 0", "split 0 19 20 -> 47", "held 0 0 -> 0",
         "money 0 0 -> 950");
@@ -151,6 +157,12 @@ public final class PaperEdgesTest {
         // 99 / 100 and 99 * 99 / 100, then 1 and 99, then 1.01 and 99.99
         "pay 0 99 -> 98", "money 0 0 -> 0", "money 1 0 -> 98", "pay 0 100 -> 100", "money 0 0 -> 1",
         "pay 0 101 -> 100", "money 0 0 -> 2", "money 1 0 -> 296");
+    edge(0, "RIGHTS a for b at a price: COUNT becomes the floor of COUNT * (a + b) / b; a BASKET has h * (a + b) / b, and"
+        + " h * a / b * price is PAID IN;", EdgeHelp.shares(1),
+        // at its price nothing is other; at less it is less, at more it is more
+        "rights 0 1 3 1000 -> 1333", "level 0 1 -> 1000000", "rights 0 20 20 1000 -> 2666", "level 0 1 -> 1000000",
+        "next -> 2", "rights 0 1 1 1 -> 5332", "level 0 2 -> 1998002", "undo -> 7", "rights 0 1 1 99999 -> 5332",
+        "level 0 2 -> 19802", "undo -> 7", "rights 0 1 20 999 -> 2799", "level 0 2 -> 1000048");
     edge(0, "a FUND has the floor of h * a / b more, and pays as many prices.", EdgeHelp.shares(19),
         "rights 0 1 20 99999 -> 1050", "held 0 0 -> 19", "money 0 0 -> 0", "rights 0 1 19 7 -> 1105",
         "held 0 0 -> 20", "money 0 0 -> -7", "rights 0 1 20 1 -> 1160", "held 0 0 -> 21", "money 0 0 -> -8",
@@ -161,6 +173,15 @@ public final class PaperEdgesTest {
         // 3 / 4 at 2 is a coin, at 1 none
         "price 1 1 2 -> 1", "money 0 0 -> 1", "price 1 1 1 -> 1", "money 0 0 -> 0", "spin 0 4 3 99999 -> 2",
         "held 0 2 -> 4", "money 0 0 -> 0");
+    edge(0, "a BASKET has h * a / b of it, too; a FUND the floor of that, and money for the rest, as above.",
+        EdgeHelp.shares(19),
+        "spin 0 1 20 99999 -> 1", "held 0 1 -> 0", "money 0 0 -> 94999", "level 0 1 -> 5999950", "spin 1 20 1 1 -> 2",
+        "held 0 2 -> 0", "level 0 1 -> 6000950", "spin 0 1 19 1000 -> 3", "held 0 3 -> 1", "money 0 0 -> 94999",
+        "level 0 1 -> 6053582", "held 0 0 -> 19");
+    edge(0, "MERGER of x into y, a for b: x is GONE; COUNT of y is more by the floor of COUNT of x * a / b;",
+        "paper 19 100 0 10 -> 0", "paper 1 100 0 10 -> 1", "merge 0 1 1 20 -> 1", "ofPaper 0 5 -> 1", "ofPaper 0 1 -> 19",
+        "undo -> 2", "ofPaper 0 5 -> 0", "merge 0 1 1 19 -> 2", "undo -> 2", "merge 0 1 20 19 -> 21", "undo -> 2",
+        "merge 0 1 19 20 -> 19");
     edge(0, "in a FUND the floor of that, and money for the rest at the PRICE of y.", EdgeHelp.shares(3),
         "paper 1 100 0 1 -> 1", "next -> 2", "price 1 2 3 -> 0", "merge 0 1 1 4 -> 251", "held 0 0 -> 0",
         "held 0 1 -> 0", "money 0 0 -> 2", "price 1 2 1 -> 1", "money 0 0 -> 0", "price 1 2 4 -> 1", "money 0 0 -> 3",
