@@ -117,6 +117,15 @@ public final class FundEdgesTest {
         "ofFund 0 5 -> 0", "take 0 1 -> 9", "held 0 0 -> 18", "money 0 0 -> -17999", "ofFund 0 5 -> 100",
         // 3 * 1 / 9, and 6 of 18 papers
         "take 0 3 -> 6", "held 0 0 -> 12", "money 0 0 -> -11999", "ofFund 0 5 -> 433");
+    // 99 coins for 9999 UNITS: 100 of them are 0.990099 coins
+    edge(0, left, EdgeHelp.shares(9999), "tax 0 99 -> 0", "pay 0 1 -> 99", "take 0 100 -> 9899", "money 0 0 -> 99",
+        "ofFund 0 5 -> 990", "undo -> 7", "make 0 100 -> 10099", "money 0 0 -> 100", "ofFund 0 5 -> 9", "undo -> 7",
+        "make 0 101 -> 10100", "money 0 0 -> 100", "ofFund 0 5 -> 0");
+    // a third of a coin below 0: the floor is -1, the ceiling 0
+    edge(0, left, EdgeHelp.shares(3), "rights 0 1 3 1001 -> 1333", "split 0 3 4 -> 999", "held 0 0 -> 3",
+        "money 0 0 -> -1001", "pay 0 250 -> 750", "pay 0 83 -> 249", "money 0 0 -> -2", "undo -> 7", "tax 0 99 -> 0",
+        "pay 0 8350 -> 250", "money 0 0 -> -1", "make 0 1 -> 4", "held 0 0 -> 4", "money 0 0 -> -1", "ofFund 0 5 -> 333",
+        "undo -> 7", "take 0 1 -> 2", "held 0 0 -> 2", "money 0 0 -> 0", "ofFund 0 5 -> 666");
     // a floor each time: 2 / 3 and 2 / 3 are 1332
     edge(0, left, EdgeHelp.shares(3), "ofFund 0 5 -> 0", "split 0 4 3 -> 1333", "make 0 1 -> 4", "ofFund 0 5 -> 666",
         "make 0 4 -> 8", "ofFund 0 5 -> 666", "take 0 8 -> 0", "ofFund 0 5 -> 666", "make 0 3 -> 3", "ofFund 0 5 -> 666",
@@ -337,6 +346,9 @@ public final class FundEdgesTest {
     edge(17, returns, WORTH_0, "make 0 1 -> -9", "make 0 9999 -> -9", "ofFund 0 4 -> 10", "house 4 -> 8");
     edge(17, returns, WORTH_BELOW_0, "make 0 1 -> -9", "make 0 9999 -> -9", "ofFund 0 4 -> 10");
     edge(17, returns, WORTH_1, "make 0 1 -> 11", "money 0 1 -> 2", "make 0 9999 -> 10010");
+    // one UNIT is UNITS, too
+    edge(17, returns, EdgeHelp.shares(1), "rights 0 1 1 2000 -> 2000", "money 0 1 -> 0", "make 0 1 -> -9",
+        "take 0 1 -> -9", "pay 0 1 -> 2", "make 0 1 -> 2");
     // without UNITS it does not matter what it is worth
     edge(17, returns, "index 0 1 0 100 -1 false -> 0", "fund 0 0 0 1 -> 0", "money 0 1 -> 0", "make 0 1 -> 1",
         "take 0 1 -> 0", "money 0 1 -> 0", "make 0 9999 -> 9999");
@@ -443,6 +455,8 @@ public final class FundEdgesTest {
     edge(40, "Returns WORTH / UNITS as a FRACTION; \"-\" without UNITS.", EdgeHelp.shares(3), "unit 0 -> 1000/1",
         "pay 0 1 -> 3", "unit 0 -> 1001/1", "split 0 1 2 -> 500", "unit 0 -> 501/1", "take 0 1 -> 2", "unit 0 -> 501/1",
         "take 0 2 -> 0", "unit 0 -> -", "make 0 9 -> 9", "unit 0 -> 1000/1");
+    edge(40, "Returns WORTH / UNITS as a FRACTION; \"-\" without UNITS.", EdgeHelp.shares(1), "unit 0 -> 1000/1",
+        "take 0 1 -> 0", "unit 0 -> -");
     edge(40, "Returns WORTH / UNITS as a FRACTION; \"-\" without UNITS.", WORTH_0, "unit 0 -> 0/1",
         "rights 0 1 20 1001 -> 2100", "unit 0 -> -1/10", "rights 0 1 20 1004 -> 2205", "unit 0 -> -1/2");
     edge(40, "Returns WORTH / UNITS as a FRACTION; \"-\" without UNITS.", WORTH_1, "unit 0 -> 1/10", "make 0 1 -> 11",

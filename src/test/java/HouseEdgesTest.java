@@ -14,6 +14,8 @@ public final class HouseEdgesTest {
     undoAnswers();
     undoSteps();
     undoNothing();
+    undoPairs();
+    undoThings();
     refused();
     exceptions();
     numbers();
@@ -99,6 +101,107 @@ public final class HouseEdgesTest {
     edge(0, also, EdgeHelp.shares(1), "house 4 -> 7", "knock -> 1", "make 0 0 -> IAE", "take 0 2 -> -9",
         "index 9 1 0 10 -1 true -> IAE", "level 0 0 -> 1000000", "would 0 ->", "isSound -> true", "house 4 -> 7",
         "undo -> 6", "held 0 0 -> 0", "house 6 -> 1");
+  }
+
+  /** A start from which each sort of CHANGE changes something; the last of it can be taken back. */
+  private static final String[] RICH = {
+    "paper 1000 50 0 10", "paper 500 100 1 30", "paper 70 100 1 20", "index 0 2 1 60 -1 true",
+    "index 2 2 0 60 -1 false", "tax 0 10", "part 1 0", "fund 0 300 0 3", "fund 1 0 1 1", "make 0 50", "make 1 20",
+    "review 0", "review 1", "next", "trade 0", "trade 1", "next", "price 0 2 11", "pay 0 3",
+  };
+
+  private static final String[] CHANGES = {
+    "paper 9 9 2 9", "price 0 1 77", "price 1 0 2", "count 0 7", "free 1 3", "split 0 3 7", "pay 0 13",
+    "rights 1 2 3 5", "spin 0 3 7 8", "merge 0 1 3 7", "next", "index 3 2 0 50 1 true", "tax 0 55", "part 1 -1",
+    "review 0", "fund 0 9 0 1", "make 0 3", "take 1 3", "trade 0", "lend 0 0 50",
+  };
+
+  private static Indexkeeper keeper(String[] start, String... more) {
+    Indexkeeper x = new Indexkeeper();
+    for (String call : EdgeHelp.join(start, more)) {
+      ScriptHelp.ask(x, call);
+    }
+    return x;
+  }
+
+  /** Each CHANGE is taken back, then each other one: nothing is left of both. */
+  private static void undoPairs() {
+    String label = EdgeHelp.quote(45, "Takes the last CHANGE back that can be.");
+    int most = ScriptHelp.MOST_CALLS - RICH.length - 10;
+    for (String one : CHANGES) {
+      List<String> due = ScriptHelp.picture(keeper(RICH, one), most);
+      for (String two : CHANGES) {
+        List<String> is = ScriptHelp.picture(keeper(RICH, one, "undo", two, "undo", one), most);
+        ScriptHelp.due(label, one + " behind " + two + " that is taken back", is, due);
+      }
+    }
+  }
+
+  /** Things that come behind a step back are new ones, whatever those were that had their numbers. */
+  private static void undoThings() {
+    String label = EdgeHelp.quote(45, "Takes the last CHANGE back that can be.");
+    String[][] before = {
+      {"fund 1 999 2 3", "make 2 3000", "trade 2", "lend 2 0 70", "pay 1 7", "make 2 7", "next", "next"},
+      {"fund 0 999 0 1", "make 2 9999", "trade 2", "next", "price 1 2 99999", "take 2 7", "next"},
+      {"index 2 3 1 40 -1 true", "tax 2 50", "part 2 0", "review 2", "next", "price 0 1 8", "review 2", "next"},
+      {"index 3 3 1 10 3 false", "review 2", "next", "tax 2 100", "review 2"},
+      {"paper 7 7 3 99999", "split 3 2 1", "next", "price 3 3 5", "next", "price 3 4 6", "merge 3 0 1 1"},
+      {"spin 1 20 1 99999", "next", "price 3 3 5", "price 3 2 4", "review 0", "next"},
+    };
+    String[][] behind = {
+      {"fund 0 1 0 1", "next", "next"}, {"fund 1 0 0 1", "make 2 1", "next", "next", "next"}, {"index 1 1 0 100 -1 true"},
+      {"index 0 3 0 100 -1 true", "next"}, {"paper 1 1 1 1", "next"}, {"spin 0 1 1 1", "next"},
+      {"next", "next", "paper 1 1 1 1"},
+    };
+    for (String[] ahead : before) {
+      String[] gone = EdgeHelp.join(ahead, EdgeHelp.times(ahead.length, "undo"));
+      for (String[] then : behind) {
+        String what = then[0] + " behind " + ahead[0] + " that is taken back";
+        // once and twice, with a price told in between, for what is held may be held twice
+        String[] twice = EdgeHelp.join(EdgeHelp.join(gone, "price 0 0 10"), gone);
+        ScriptHelp.due(label, what, now(keeper(RICH, EdgeHelp.join(gone, then))), now(keeper(RICH, then)));
+        ScriptHelp.due(label, what + ", twice", now(keeper(RICH, EdgeHelp.join(twice, then))),
+            now(keeper(EdgeHelp.join(RICH, "price 0 0 10"), then)));
+      }
+    }
+  }
+
+  /** All that is answered now, but for how many changes can be taken back. */
+  private static String now(Indexkeeper x) {
+    StringBuilder all = new StringBuilder(x.changed());
+    int days = x.house(0) + 1;
+    int papers = x.house(1);
+    int indexes = x.house(2);
+    int funds = x.house(3);
+    all.append(' ').append(x.house(5)).append(' ').append(x.house(7));
+    for (int p = 0; p < papers; p++) {
+      ask(x, all, "ofPaper " + p + " #", 7);
+      ask(x, all, "priceOn " + p + " #", days);
+      ask(x, all, "votes " + p + " true", 1);
+    }
+    for (int i = 0; i < indexes; i++) {
+      ask(x, all, "ofIndex " + i + " #", 12);
+      ask(x, all, "why " + i, 1);
+      ask(x, all, "level " + i + " #", days);
+      ask(x, all, "weight " + i + " #", papers);
+      ask(x, all, "isCut " + i + " #", papers);
+      ask(x, all, "report " + i, 1);
+    }
+    for (int f = 0; f < funds; f++) {
+      ask(x, all, "ofFund " + f + " #", 9);
+      ask(x, all, "money " + f + " #", 3);
+      ask(x, all, "held " + f + " #", papers);
+      ask(x, all, "error " + f, 1);
+      ask(x, all, "collateral " + f, 1);
+      ask(x, all, "would " + f, 1);
+    }
+    return all.toString();
+  }
+
+  private static void ask(Indexkeeper x, StringBuilder all, String call, int times) {
+    for (int n = 0; n < times; n++) {
+      all.append(' ').append(ScriptHelp.ask(x, call.replace("#", "" + n)));
+    }
   }
 
   // ---- -9 and exceptions

@@ -199,6 +199,12 @@ public final class IndexEdgesTest {
         "review 1 -> 2", "next -> 1", "isCut 0 0 -> 1", "isCut 0 1 -> 1", "isCut 0 2 -> 1", "isCut 0 3 -> 0",
         "isCut 0 4 -> 0", "weight 0 0 -> 6/25", "weight 0 1 -> 6/25", "weight 0 2 -> 6/25", "weight 0 3 -> 7/45",
         "weight 0 4 -> 28/225", "isCut 1 1 -> 1", "isCut 1 2 -> 0", "weight 1 2 -> 253/1000", "isSound -> true");
+    // one of another KIND is not CUT, however large it is
+    edge(0, cut,
+        "paper 99999 100 0 1 -> 0", "paper 30 100 1 1 -> 1", "paper 20 100 1 1 -> 2", "paper 99998 100 2 1 -> 3",
+        "index 2 2 0 50 1 false -> 0", "review 0 -> 1", "next -> 1", "members 0 -> 1 2", "isCut 0 0 -> 0",
+        "isCut 0 1 -> 1", "isCut 0 2 -> 0", "isCut 0 3 -> 0", "weight 0 0 -> 0/1", "weight 0 3 -> 0/1",
+        "weight 0 2 -> 1/2", "isSound -> true");
     // all of the members at once, but one, and none is left above
     edge(0, cut,
         "paper 100 100 0 1 -> 0", "paper 100 100 0 1 -> 1", "paper 100 100 0 1 -> 2", "paper 1 100 0 1 -> 3",
@@ -222,6 +228,18 @@ public final class IndexEdgesTest {
         "review 2 -> 3", "next -> 1", "part10000 0 0 -> 5000", "part10000 1 0 -> 5000", "part10000 2 0 -> 0",
         "part10000 2 1 -> 9999", "price 1 1 1 -> 3", "part10000 0 0 -> 9999", "part10000 1 0 -> 9999",
         "part10000 2 0 -> 9000", "part10000 2 1 -> 1000", "level 0 1 -> 500005", "level 2 1 -> 100");
+    // alike ones of which two have one price, and one has another
+    edge(0, "The new BASKET: of each member WEIGHT / PRICE.",
+        "paper 9 100 0 2 -> 0", "paper 8 100 0 5 -> 1", "paper 7 100 0 2 -> 2", "paper 6 100 0 3 -> 3",
+        "index 1 4 0 100 -1 false -> 0", "review 0 -> 1", "next -> 1", "part10000 0 0 -> 2500", "part10000 0 1 -> 2500",
+        "part10000 0 2 -> 2500", "part10000 0 3 -> 2500", "price 1 1 10 -> 1", "level 0 1 -> 1250000",
+        "price 0 1 4 -> 1", "level 0 1 -> 1500000", "price 2 1 4 -> 1", "level 0 1 -> 1750000", "price 3 1 6 -> 1",
+        "level 0 1 -> 2000000");
+    // two KINDS: 3 and 1 in the one, 8 in the other
+    edge(0, "The new BASKET: of each member WEIGHT / PRICE.",
+        "paper 3 100 0 1 -> 0", "paper 1 100 0 1 -> 1", "paper 4 100 2 2 -> 2", "index 3 3 0 100 -1 false -> 0",
+        "review 0 -> 1", "next -> 1", "part10000 0 0 -> 3750", "part10000 0 1 -> 1250", "part10000 0 2 -> 5000",
+        "price 0 1 2 -> 1", "level 0 1 -> 1375000", "price 2 1 4 -> 1", "level 0 1 -> 1875000");
     edge(0, "It is in force from the next DAY on.", ONE_OF_TWO,
         "fund 0 0 0 1 -> 0", "make 0 1 -> 1", "index 0 1 0 100 1 false -> 1", "fund 1 0 0 1 -> 1", "make 1 1 -> 1",
         "review 1 -> 1", "trade 1 -> -9", "would 1 -> -", "report 1 ->", "part10000 1 1 -> 0", "level 1 1 -> -",
@@ -395,7 +413,10 @@ public final class IndexEdgesTest {
         "weight 0 0 -> 0/1", "next -> 1", "weight 0 0 -> 1/1", "paper 4 100 0 9 -> 1", "weight 0 1 -> 0/1",
         "paper 7 100 0 9 -> 2", "review 0 -> 1", "weight 0 0 -> 1/1", "next -> 2", "weight 0 0 -> 6/13",
         "weight 0 1 -> 0/1", "weight 0 2 -> 7/13", "spin 2 1 1 9 -> 3", "weight 0 3 -> 0/1", "merge 2 0 1 1 -> 13",
-        "weight 0 2 -> 7/13");
+        "weight 0 2 -> 7/13",
+        // one that was a member ahead of that is none any more
+        "review 0 -> 1", "next -> 3", "members 0 -> 0 3", "weight 0 2 -> 0/1", "weight 0 0 -> 13/20",
+        "weight 0 3 -> 7/20");
     edge(30, "if there is no such INDEX or PAPER",
         "weight 0 0 -> IOOBE", "paper 5 9 0 1 -> 0", "weight 0 0 -> IOOBE", "index 0 1 0 100 -1 false -> 0",
         "weight 0 0 -> 0/1", "weight -1 0 -> IOOBE", "weight 1 0 -> IOOBE", "weight 0 -1 -> IOOBE",
@@ -487,6 +508,12 @@ public final class IndexEdgesTest {
         "changed ->", "price 0 1 64 -> 1", "changed -> 0:1", "price 0 1 64 -> 0", "changed ->", "undo -> 5",
         "changed -> 0:1", "next -> 2", "pay 0 1 -> 0", "count 0 5 -> 1000", "changed -> 0:1", "undo -> 7", "undo -> 6",
         "undo -> 5", "changed -> 0:1", "price 0 9 1 -> IAE", "changed -> 0:1", "undo -> 4", "changed ->");
+    // LEVELS that are no more, from the DAY 0 on
+    edge(36, returns,
+        "paper 10 100 0 10 -> 0", "paper 10 100 1 9 -> 1", "index 0 1 0 100 -1 false -> 0",
+        "index 0 1 0 100 0 false -> 1", "part 1 0 -> -1", "review 0 -> 1", "review 1 -> 2", "next -> 1",
+        "price 0 0 8 -> 2", "changed -> 1:0 1:1", "level 1 0 -> -", "price 0 0 9 -> 2", "changed -> 1:0 1:1",
+        "level 1 0 -> 1000000");
     // a price() that can no longer be taken back is one that is not undone
     edge(36, returns, AT_128, EdgeHelp.join(new String[] {"price 0 1 64 -> 1"},
         EdgeHelp.join(EdgeHelp.times(9, "tax 0 0 -> 0"), EdgeHelp.join(new String[] {"changed -> 0:1", "house 4 -> 8",
