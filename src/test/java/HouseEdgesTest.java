@@ -25,6 +25,7 @@ public final class HouseEdgesTest {
     digest();
     digestWraps();
     mostCalls();
+    allPlaces();
     EdgeHelp.close("house edges", 45, 46, 47, 48, 49);
   }
 
@@ -287,6 +288,12 @@ public final class HouseEdgesTest {
         "review 2 -> 3", "isSound -> true", "next -> 1", "isSound -> true", "isCut 0 0 -> 1", "isCut 2 0 -> 0",
         "price 0 1 99999 -> 3", "isSound -> true", "merge 0 1 1 1 -> 100", "review 0 -> 1", "next -> 2", "why 0 -> cap",
         "isSound -> true");
+    edge(48, "in one of the WAY 2 none is above CAP (as it was then, it never changes), CUT ones are CAP;",
+        // in the other WAYS it does not matter
+        "paper 60 100 0 1 -> 0", "paper 40 100 1 1 -> 1", "index 0 2 0 10 -1 false -> 0", "index 1 2 0 10 -1 false -> 1",
+        "index 3 1 0 10 -1 false -> 2", "index 2 2 0 100 -1 false -> 3", "review 0 -> 1", "review 1 -> 2",
+        "review 2 -> 3", "review 3 -> 4", "next -> 1", "weight 0 0 -> 3/5", "weight 1 0 -> 1/2", "weight 2 0 -> 1/1",
+        "weight 3 0 -> 3/5", "isSound -> true");
     edge(48, "CARRIED of each FUND is 0 to 3649999.",
         "index 0 1 0 100 -1 false -> 0", "fund 0 365 0 1 -> 0", "fund 0 1 0 1 -> 1", "make 0 10 -> 10",
         "make 1 3650 -> 3650", "next -> 1", "ofFund 0 8 -> 0", "isSound -> true", "next -> 2", "ofFund 1 8 -> 3649999",
@@ -418,6 +425,11 @@ public final class HouseEdgesTest {
       prices[i] = "undo -> " + (512 - i);
     }
     edge(0, most, prices);
+    prices[511] = "changed ->";
+    for (int i = 504; i < 511; i++) {
+      prices[i] = "price 0 0 " + (i + 1) + " -> 0";
+    }
+    edge(0, most, prices);
     String[] ends = counts.clone();
     for (int i = 1; i < 511; i++) {
       ends[i] = i % 2 == 1 ? "next -> 1" : "undo -> 1";
@@ -433,5 +445,42 @@ public final class HouseEdgesTest {
     late.add("money 0 0 -> 375");
     late.add("price 0 1 500 -> 1");
     edge(0, most, late.toArray(new String[0]));
+  }
+
+  /** Ten papers, four indexes and three funds, up to the DAY 40: all answers are those of the plain model. */
+  private static void allPlaces() {
+    String label = "all places taken";
+    List<String> calls = new ArrayList<>();
+    for (int p = 0; p < 8; p++) {
+      calls.add("paper " + (1000 - 37 * p) + " " + (100 - p) + " " + p % 4 + " " + (90 + 7 * p));
+    }
+    for (int i = 0; i < 4; i++) {
+      calls.add("index " + (3 - i) + " 8 3 " + (13 + i) + " -1 " + (i % 2 == 0));
+      calls.add("review " + i);
+    }
+    calls.add("part 3 2");
+    for (int f = 0; f < 3; f++) {
+      calls.add("fund " + (f + 1) + " " + 333 * f + " " + 4 * f + " " + (1 + f));
+      calls.add("make " + f + " 9999");
+    }
+    calls.addAll(List.of("next", "trade 0", "trade 1", "trade 2", "spin 7 3 2 55", "spin 0 1 3 99999", "spin 1 1 1 1",
+        "paper 1 1 0 1", "index 0 1 0 10 -1 true", "fund 0 0 0 1", "review 0", "review 1", "review 2", "review 3", "next",
+        "split 9 3 2", "split 7 2 3", "pay 9 77", "rights 9 2 3 44", "rights 8 1 7 99", "lend 2 9 33", "lend 2 8 100",
+        "trade 0", "trade 1", "trade 2", "merge 9 8 2 3", "merge 0 7 1 9", "price 8 1 66", "review 3", "tax 3 17"));
+    for (int day = 2; day < 40; day++) {
+      calls.add("next");
+    }
+    calls.addAll(List.of("next", "price 8 40 91", "price 7 17 13", "trade 2", "take 2 9999", "make 2 1"));
+    Indexkeeper x = new Indexkeeper();
+    PlainHelp plain = new PlainHelp();
+    for (String call : calls) {
+      ScriptHelp.due(label, call, ScriptHelp.ask(x, call), ScriptHelp.ask(plain, call));
+    }
+    for (String call : new String[] {"ofPaper 9 6", "size 9", "votes 9 true", "votes 8 false", "rank 3 8", "ofIndex 3 11",
+        "level 3 40", "members 3", "why 3", "weight 3 8", "isCut 1 8", "part10000 3 8", "common 3 2", "growth 3 1 40",
+        "report 3", "changed", "ofFund 2 8", "money 2 1", "held 2 8", "unit 2", "would 2", "error 2", "gain 2 999",
+        "collateral 2", "digest", "isSound", "undo", "digest", "undo", "digest"}) {
+      ScriptHelp.due(label, call, ScriptHelp.ask(x, call), ScriptHelp.ask(plain, call));
+    }
   }
 }
