@@ -314,67 +314,6 @@ public final class HouseEdgesTest {
         "digest -> -7799684204821037754");
   }
 
-  private static final class Sum {
-    BigInteger whole = BigInteger.valueOf(6903);
-
-    void add(long v) {
-      whole = whole.multiply(BigInteger.valueOf(31)).add(BigInteger.valueOf(v));
-    }
-
-    void add(String text) {
-      for (char c : text.toCharArray()) {
-        add(c);
-      }
-    }
-  }
-
-  /** The checksum as a number of any length, by what the calls of the face answer. */
-  private static BigInteger whole(Indexkeeper x) {
-    Sum d = new Sum();
-    for (int what = 0; what <= 7; what++) {
-      d.add(x.house(what));
-    }
-    int papers = x.house(1);
-    for (int p = 0; p < papers; p++) {
-      for (int what = 0; what <= 6; what++) {
-        d.add(x.ofPaper(p, what));
-      }
-      d.add(x.votes(p, true));
-      d.add(x.votes(p, false));
-    }
-    for (int i = 0; i < x.house(2); i++) {
-      for (int what = 0; what <= 11; what++) {
-        d.add(x.ofIndex(i, what));
-      }
-      d.add(x.why(i));
-      for (int day = 0; day <= x.house(0); day++) {
-        d.add(x.level(i, day));
-      }
-      for (int p = 0; p < papers; p++) {
-        d.add(x.part10000(i, p));
-        d.add(x.isCut(i, p));
-      }
-      d.add(x.report(i).length());
-    }
-    for (int f = 0; f < x.house(3); f++) {
-      for (int what = 0; what <= 8; what++) {
-        d.add(x.ofFund(f, what));
-      }
-      for (int what = 0; what <= 2; what++) {
-        d.add(x.money(f, what));
-      }
-      for (int p = 0; p < papers; p++) {
-        d.add(x.held(f, p));
-      }
-      d.add(x.would(f));
-      d.add(x.error(f));
-      d.add(x.collateral(f));
-    }
-    d.add(x.changed().length());
-    d.add(x.isSound() ? 1 : 0);
-    return d.whole;
-  }
-
   /** d becomes more than a long holds: what is told are its last 64 bits, with a sign. */
   private static void digestWraps() {
     String label = EdgeHelp.quote(49, "which wraps around as a 64-bit integer");
@@ -395,7 +334,7 @@ public final class HouseEdgesTest {
       for (int i = 0; i < n; i++) {
         ScriptHelp.ask(y, calls.get(i));
       }
-      BigInteger whole = whole(y);
+      BigInteger whole = DigestHelp.whole(y);
       long due = whole.longValue();
       boolean isLong = whole.bitLength() < 64;
       above += !isLong && due > 0 ? 1 : 0;

@@ -114,56 +114,6 @@ public final class HouseTest {
         "merge 2 0 5 3 -> 64", "take 0 4 -> 5", "isSound -> true", "undo -> 7", "undo -> 6", "isSound -> true");
   }
 
-  // ---- the checksum, once more by the calls of the face
-
-  private static long fold(long d, String text) {
-    long sum = d;
-    for (char c : text.toCharArray()) {
-      sum = sum * 31 + c;
-    }
-    return sum;
-  }
-
-  private static long due(Indexkeeper x) {
-    long d = 6903;
-    for (int what = 0; what <= 7; what++) {
-      d = d * 31 + x.house(what);
-    }
-    for (int p = 0; p < x.house(1); p++) {
-      for (int what = 0; what <= 6; what++) {
-        d = d * 31 + x.ofPaper(p, what);
-      }
-      d = fold(fold(d, x.votes(p, true)), x.votes(p, false));
-    }
-    for (int i = 0; i < x.house(2); i++) {
-      for (int what = 0; what <= 11; what++) {
-        d = d * 31 + x.ofIndex(i, what);
-      }
-      d = fold(d, x.why(i));
-      for (int day = 0; day <= x.house(0); day++) {
-        d = fold(d, x.level(i, day));
-      }
-      for (int p = 0; p < x.house(1); p++) {
-        d = (d * 31 + x.part10000(i, p)) * 31 + x.isCut(i, p);
-      }
-      d = d * 31 + x.report(i).length();
-    }
-    for (int f = 0; f < x.house(3); f++) {
-      for (int what = 0; what <= 8; what++) {
-        d = d * 31 + x.ofFund(f, what);
-      }
-      for (int what = 0; what <= 2; what++) {
-        d = fold(d, x.money(f, what));
-      }
-      for (int p = 0; p < x.house(1); p++) {
-        d = fold(d, x.held(f, p));
-      }
-      d = fold(fold(fold(d, x.would(f)), x.error(f)), x.collateral(f));
-    }
-    d = d * 31 + x.changed().length();
-    return d * 31 + (x.isSound() ? 1 : 0);
-  }
-
   /** Each stage is a keeper of its own, for what is asked of it takes many calls. */
   private static Indexkeeper stage(int n) {
     Indexkeeper x = n == 0 ? new Indexkeeper() : start();
@@ -187,8 +137,8 @@ public final class HouseTest {
   private static void digest() {
     for (int n = 0; n < 4; n++) {
       Indexkeeper x = stage(n);
-      ScriptHelp.due(49, "digest of stage " + n, x.digest(), due(stage(n)));
-      ScriptHelp.due(49, "digest again", x.digest(), due(x));
+      ScriptHelp.due(49, "digest of stage " + n, x.digest(), DigestHelp.whole(stage(n)).longValue());
+      ScriptHelp.due(49, "digest again", x.digest(), DigestHelp.whole(x).longValue());
     }
   }
 }
