@@ -355,6 +355,12 @@ public final class HouseEdgesTest {
       counts[i] = "count 0 " + (i + 1) + " -> " + i;
     }
     edge(0, most, counts);
+    // the last of 512 CHANGES is done as all others are
+    for (String last : new String[] {"split 0 2 1 -> 1022", "next -> 1", "spin 0 1 1 1 -> 1", "undo -> 7", "pay 0 1 -> 0"}) {
+      String[] changes = counts.clone();
+      changes[511] = last;
+      edge(0, most, changes);
+    }
     String[] prices = counts.clone();
     for (int i = 1; i < 504; i++) {
       prices[i] = "price 0 0 " + (i + 1) + " -> 0";
