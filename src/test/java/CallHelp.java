@@ -15,7 +15,13 @@ public final class CallHelp {
   public static final int GROWING = 2;
   public static final int LATE = 3;
   public static final int DAYS = 4;
-  public static final int SORTS = 5;
+  public static final int BACK = 5;
+  public static final int NARROW = 6;
+  public static final int SORTS = 7;
+
+  /** So that the number of members * CAP is just 100, or near it. */
+  private static final int[] CAPS = {10, 12, 13, 20, 25, 33, 34, 49, 50, 99, 100};
+  private static final int[] PRICES = {1, 1, 1, 2, 3, 99998, 99999};
 
   private final Random chance;
   private final int sort;
@@ -24,6 +30,7 @@ public final class CallHelp {
   private int indexes;
   private int funds;
   private int today;
+  private final int[] units = new int[3];
 
   public CallHelp(long seed, int itsSort) {
     chance = new Random(seed);
@@ -57,6 +64,9 @@ public final class CallHelp {
     papers = Integer.parseInt(ask(at, "house", 1));
     indexes = Integer.parseInt(ask(at, "house", 2));
     funds = Integer.parseInt(ask(at, "house", 3));
+    for (int f = 0; f < funds; f++) {
+      units[f] = Integer.parseInt(ask(at, "ofFund", f, 4));
+    }
   }
 
   private int in(int least, int most) {
@@ -76,6 +86,9 @@ public final class CallHelp {
   }
 
   private int price() {
+    if (sort == NARROW) {
+      return PRICES[chance.nextInt(PRICES.length)];
+    }
     switch (chance.nextInt(4)) {
       case 0:
         return in(1, 9);
@@ -102,6 +115,10 @@ public final class CallHelp {
     if (funds < 1 && roll < 90) {
       return fundCall();
     }
+    // several in a row, so that all the steps back are gone now and then
+    if (sort == BACK && chance.nextInt(4) == 0) {
+      return new Object[] {"undo"};
+    }
     int kind = chance.nextInt(100);
     if (kind < 45) {
       return question();
@@ -126,6 +143,9 @@ public final class CallHelp {
   }
 
   private Object[] indexCall() {
+    if (sort == NARROW) {
+      return new Object[] {"index", 2, in(1, 8), in(0, 3), CAPS[chance.nextInt(CAPS.length)], -1, chance.nextBoolean()};
+    }
     return new Object[] {"index", in(0, 3), in(1, 8), in(0, 3), in(10, 100),
         chance.nextInt(3) == 0 ? in(0, 3) : -1, chance.nextBoolean()};
   }
@@ -136,6 +156,10 @@ public final class CallHelp {
   }
 
   private Object[] fundDeed() {
+    int all = chance.nextInt(units.length);
+    if (units[all] > 0 && chance.nextInt(20) == 0) {
+      return new Object[] {"take", all, units[all]};
+    }
     switch (chance.nextInt(6)) {
       case 0:
       case 1:

@@ -86,6 +86,12 @@ public final class IndexEdgesTest {
     edge(0, candidates, ONE_OF_TWO,
         "index 0 8 0 100 -1 false -> 1", "part 1 0 -> -1", "count 1 21 -> 10", "review 1 -> 1", "review 0 -> 2",
         "next -> 2", "members 0 -> 1", "members 1 -> 1");
+    // one that was a member of the PART, and is none of the whole any more
+    edge(0, candidates, ONE_OF_TWO,
+        "index 0 8 3 100 -1 false -> 1", "part 1 0 -> -1", "review 1 -> 1", "next -> 2", "members 1 -> 0",
+        "count 1 21 -> 10", "review 0 -> 1", "next -> 3", "members 0 -> 1", "members 1 -> 0", "rank 1 0 -> -1",
+        "rank 1 1 -> 1", "review 1 -> 1", "next -> 4", "members 1 -> 1", "part 1 -1 -> 0", "rank 1 0 -> 2",
+        "review 1 -> 1", "next -> 5", "members 1 -> 0 1");
   }
 
   private static void ranks() {
