@@ -1925,7 +1925,7 @@ public final class Indexkeeper {
         return;
       }
       Purse purse = book.purses[fund];
-      if (purse.units == 0) {
+      if (purse.units < 1) {
         sum.put(1000L * n);
         purse.money.add(sum, false);
         purse.units = n;
@@ -1942,7 +1942,7 @@ public final class Indexkeeper {
     }
 
     void dropUnits(Book book, int fund, int n) {
-      if (!book.hasFund(fund) || book.purses[fund].units < n) {
+      if (n < 1 || !book.hasFund(fund) || book.purses[fund].units < n) {
         return;
       }
       Purse purse = book.purses[fund];
